@@ -60,7 +60,7 @@ public final class BoardTest {
     }
 
     private static void layRefuses() {
-        MarbleRamps x = busy();
+        MarbleRamps x = Boards.busy();
         int[][] wrong = {{1, 4}, {10, 4}, {0, 4}, {5, 0}, {5, 9}, {1, 0}, {10, 9}};
         for (int[] w : wrong) {
             Checks.refuses(x, "2: lay(" + w[0] + ", " + w[1] + ")", NO_ARGUMENT, () -> x.lay(w[0], w[1]));
@@ -108,7 +108,7 @@ public final class BoardTest {
     }
 
     private static void putRefuses() {
-        MarbleRamps x = busy();
+        MarbleRamps x = Boards.busy();
         int[][] noPlace = {{-1, 0, 1}, {4, 0, 1}, {0, -1, 1}, {0, 5, 1}, {4, 5, 1}, {-1, 0, 9}, {0, 5, -1}, {3, 5, 5}};
         for (int[] w : noPlace) {
             Checks.refuses(x, "3: put(" + w[0] + ", " + w[1] + ", " + w[2] + ")", NO_INDEX,
@@ -152,7 +152,7 @@ public final class BoardTest {
     }
 
     private static void putCounterRefuses() {
-        MarbleRamps x = busy();
+        MarbleRamps x = Boards.busy();
         int[][] noPlace = {{-1, 0, 2}, {4, 0, 2}, {0, -1, 2}, {0, 5, 2}, {4, 0, 1}, {0, 5, 10}};
         for (int[] w : noPlace) {
             Checks.refuses(x, "4: putCounter(" + w[0] + ", " + w[1] + ", " + w[2] + ")", NO_INDEX,
@@ -212,7 +212,7 @@ public final class BoardTest {
     }
 
     private static void setHopperRefuses() {
-        MarbleRamps x = busy();
+        MarbleRamps x = Boards.busy();
         int[][] noIndex = {{2, 0, 1}, {-1, 0, 1}, {0, 5, 1}, {1, -1, 1}, {2, 5, 100}, {0, 5, -1}, {2, 0, 100}};
         for (int[] w : noIndex) {
             Checks.refuses(x, "6: setHopper(" + w[0] + ", " + w[1] + ", " + w[2] + ")", NO_INDEX,
@@ -226,30 +226,12 @@ public final class BoardTest {
     }
 
     private static void objectsAreApart() {
-        MarbleRamps x = busy();
+        MarbleRamps x = Boards.busy();
         String before = Checks.everything(x);
         MarbleRamps other = new MarbleRamps();
         other.put(0, 0, 3);
         other.drop(0);
         other.setHopper(0, 1, 50);
         Checks.due("1: one object behind calls of another", Checks.everything(x), before);
-    }
-
-    /** A board of 5 columns and 4 rows on which nothing is as at first. */
-    private static MarbleRamps busy() {
-        MarbleRamps x = new MarbleRamps();
-        x.put(0, 0, 3);
-        x.put(0, 2, 3);
-        x.turn(0, 2);
-        x.putCounter(1, 1, 3);
-        x.put(2, 2, 4);
-        x.putCounter(2, 4, 5);
-        x.put(3, 0, 1);
-        x.setHopper(0, 2, 12);
-        x.setHopper(1, 3, 8);
-        for (int column = 0; column < 5; column++) {
-            x.drop(column);
-        }
-        return x;
     }
 }

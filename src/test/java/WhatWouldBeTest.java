@@ -22,7 +22,7 @@ public final class WhatWouldBeTest {
     }
 
     private static void wouldLand() {
-        MarbleRamps x = tree();
+        MarbleRamps x = Boards.tree();
         Checks.dueUnchanged(x, "21: wouldLand(2)", () -> x.wouldLand(2), 0);
         x.turn(0, 2);
         Checks.dueUnchanged(x, "21: wouldLand(2) turned", () -> x.wouldLand(2), 2);
@@ -35,7 +35,7 @@ public final class WhatWouldBeTest {
     }
 
     private static void wouldBeIn() {
-        MarbleRamps x = tree();
+        MarbleRamps x = Boards.tree();
         int[] columns = {2, 1, 0, 0};
         for (int row = 0; row < 4; row++) {
             int asked = row;
@@ -53,7 +53,7 @@ public final class WhatWouldBeTest {
     }
 
     private static void wouldTurn() {
-        MarbleRamps x = tree();
+        MarbleRamps x = Boards.tree();
         Checks.dueUnchanged(x, "23: wouldTurn(2)", () -> x.wouldTurn(2), 2);
         Checks.dueUnchanged(x, "23: wouldTurn(1)", () -> x.wouldTurn(1), 1);
         Checks.dueUnchanged(x, "23: wouldTurn(0)", () -> x.wouldTurn(0), 0);
@@ -74,7 +74,7 @@ public final class WhatWouldBeTest {
     }
 
     private static void lastLands() {
-        MarbleRamps x = tree();
+        MarbleRamps x = Boards.tree();
         int[] ends = {0, 2, 2, 4};
         for (int marbles = 1; marbles <= 60; marbles++) {
             int asked = marbles;
@@ -91,7 +91,7 @@ public final class WhatWouldBeTest {
     }
 
     private static void asBeforeIn() {
-        MarbleRamps x = tree();
+        MarbleRamps x = Boards.tree();
         Checks.dueUnchanged(x, "25: asBeforeIn(2)", () -> x.asBeforeIn(2), 4);
         Checks.dueUnchanged(x, "25: asBeforeIn(1)", () -> x.asBeforeIn(1), 2);
         Checks.dueUnchanged(x, "25: asBeforeIn(0)", () -> x.asBeforeIn(0), 1);
@@ -120,7 +120,7 @@ public final class WhatWouldBeTest {
         x.putCounter(0, 4, 7);
         x.putCounter(1, 3, 8);
         Checks.dueUnchanged(x, "25: asBeforeIn(4), 6 of 7 with a period of 8", () -> x.asBeforeIn(4), 28);
-        // 60 themselves: 5 in the first one, then 4 of 5 into one of 3, then all but some into a toggle and one of 2.
+        // 60 themselves: of 5 marbles the counter of 3 gets 4 and the counter of 4 gets 1, so that 12 times 5 are due.
         x.lay(9, 4);
         x.putCounter(0, 4, 5);
         x.putCounter(1, 3, 3);
@@ -135,7 +135,7 @@ public final class WhatWouldBeTest {
     }
 
     private static void wouldRun() {
-        MarbleRamps x = tree();
+        MarbleRamps x = Boards.tree();
         Checks.dueUnchanged(x, "26: wouldRun(0) of none", () -> x.wouldRun(0), 0);
         x.setHopper(0, 1, 20);
         x.setHopper(1, 3, 30);
@@ -193,7 +193,7 @@ public final class WhatWouldBeTest {
     private static void digest() {
         MarbleRamps x = new MarbleRamps();
         Checks.dueUnchanged(x, "29: digest() of a new object", () -> x.digest(), digestOf(x));
-        MarbleRamps y = tree();
+        MarbleRamps y = Boards.tree();
         y.putCounter(2, 0, 5);
         y.put(2, 4, 2);
         y.put(3, 2, 4);
@@ -241,7 +241,7 @@ public final class WhatWouldBeTest {
 
     /** No question may see what an earlier one tried. */
     private static void questionsAreApart() {
-        MarbleRamps x = tree();
+        MarbleRamps x = Boards.tree();
         x.setHopper(0, 2, 9);
         x.setHopper(1, 2, 9);
         for (int time = 0; time < 3; time++) {
@@ -260,7 +260,7 @@ public final class WhatWouldBeTest {
     }
 
     private static void columnsRefuse() {
-        MarbleRamps x = tree();
+        MarbleRamps x = Boards.tree();
         columnRefuses(x, 5);
         for (int far : FAR) {
             columnRefuses(x, far);
@@ -281,7 +281,7 @@ public final class WhatWouldBeTest {
     }
 
     private static void argumentsRefuse() {
-        MarbleRamps x = tree();
+        MarbleRamps x = Boards.tree();
         x.setHopper(0, 1, 9);
         Checks.refuses(x, "22: wouldBeIn(0, 4)", NO_INDEX, () -> x.wouldBeIn(0, 4));
         Checks.refuses(x, "24: lastLands(0, 0)", NO_ARGUMENT, () -> x.lastLands(0, 0));
@@ -292,14 +292,5 @@ public final class WhatWouldBeTest {
             Checks.refuses(x, "24: lastLands(0, " + far + ")", NO_ARGUMENT, () -> x.lastLands(0, far));
             Checks.refuses(x, "26: wouldRun(" + far + ")", NO_INDEX, () -> x.wouldRun(far));
         }
-    }
-
-    /** Three toggles, which send four marbles of the column 2 to the bins 0, 2, 2 and 4. */
-    private static MarbleRamps tree() {
-        MarbleRamps x = new MarbleRamps();
-        x.put(0, 2, 3);
-        x.put(1, 1, 3);
-        x.put(1, 3, 3);
-        return x;
     }
 }
